@@ -295,19 +295,25 @@ final class SlowModel {
 
     int loop(int what) {
         if (!in(what, 0, 2)) return BAD;
+        int[] told = loopWithin(1500);
+        return told == null ? NOTHING : told[what];
+    }
+
+    /** Lead, period and snaps, if lead and period together are at most a number of ticks. */
+    int[] loopWithin(int most) {
         World trial = w.copy();
         trial.settings[0] = 0;
         Map<String, Integer> seen = new HashMap<>();
         List<Integer> snaps = new ArrayList<>();
-        for (int step = 0; step <= 1500; step++) {
+        for (int step = 0; step <= most; step++) {
             snaps.add(trial.allSnaps());
             Integer former = seen.putIfAbsent(trial.loopState(), step);
             if (former != null) {
-                return new int[] {former, step - former, snaps.get(step) - snaps.get(former)}[what];
+                return new int[] {former, step - former, snaps.get(step) - snaps.get(former)};
             }
             trial.tickOnce();
         }
-        return NOTHING;
+        return null;
     }
 
     int stack(int bend, int index, int what) {
