@@ -930,20 +930,29 @@ public final class SnapStacks {
         }
 
         private int lengthsFor(int parts, int bend) {
-            int size = Math.abs(bend);
             switch (parts) {
-                case 0: return size == 0 ? 1 : 0;
-                case 1: return size <= MOST_BY_ONE ? byOne[size] : 0;
-                case 2: return size <= MOST_BY_TWO ? byTwo[size] : 0;
+                case 0: return bend == 0 ? 1 : 0;
+                case 1: return lengthsByOne(bend);
+                case 2: return lengthsByTwo(bend);
                 default: return lengthsByThree(bend);
             }
+        }
+
+        private int lengthsByOne(int bend) {
+            int size = Math.abs(bend);
+            return size <= MOST_BY_ONE ? byOne[size] : 0;
+        }
+
+        private int lengthsByTwo(int bend) {
+            int size = Math.abs(bend);
+            return size <= MOST_BY_TWO ? byTwo[size] : 0;
         }
 
         private int lengthsByThree(int bend) {
             int lengths = 0;
             for (int length = 1; length <= MOST_LENGTH; length++) {
                 for (int i = 0; i < pairCount; i++) {
-                    lengths |= lengthsFor(2, bend - length * difference(pairs[i])) << length;
+                    lengths |= lengthsByTwo(bend - length * difference(pairs[i])) << length;
                 }
             }
             return lengths;

@@ -123,6 +123,7 @@ public final class RoomsTest {
         Due.is("the least", x.roomOf(0, 6), 225);
         Due.is("greatest while cooling", x.roomOf(1, 5), 186);
         Due.is("least while warming", x.roomOf(2, 6), -109);
+        Due.is("greatest below 0", x.roomOf(2, 5), -99);
     }
 
     private static void tickHolds() {

@@ -7,6 +7,7 @@ public final class WhatThereIsTest {
         stripOf();
         partOf();
         roomOf();
+        extremesComeBack();
         count();
         Due.end();
     }
@@ -89,6 +90,21 @@ public final class WhatThereIsTest {
         for (int[] w : wrong) {
             Due.error(x, "roomOf(" + w[0] + ", " + w[1] + ")", x.roomOf(w[0], w[1]), Due.INVALID, before, 2);
         }
+    }
+
+    private static void extremesComeBack() {
+        SnapStacks x = new SnapStacks();
+        x.tick(1);
+        x.heat(0, 99, 99);
+        x.tick(9);
+        Due.is("greatest", x.roomOf(0, 5), 195 + 9 * 99 - 0 - 1 - 2 - 3 - 4 - 5 - 6 - 7 - 8);
+        x.undo();
+        Due.is("greatest behind the undo", x.roomOf(0, 5), 195);
+        x.warm(0, -500);
+        x.tick(9);
+        Due.holds("least", x.roomOf(0, 6) < 0);
+        x.undo();
+        Due.is("least behind the undo", x.roomOf(0, 6), 195);
     }
 
     private static void count() {

@@ -66,24 +66,32 @@ public final class WhatWouldBeTest {
     }
 
     private static void tripsAtAgainstAllWarmths() {
-        int[][] strips = {{1, 1, 0}, {9, 5, 0}, {3, 2, 1}, {9, 0, 5}, {1, 0, 1}, {4, 3, 3}};
-        int[] ats = {-90000, -33750, -33749, -7000, -3500, -701, -1, 0, 1, 99, 1000, 6500, 6501, 58500, 89999};
+        int[][] strips = {{1, 1, 0}, {9, 5, 0}, {3, 2, 1}, {9, 0, 5}, {1, 0, 1}, {4, 3, 3}, {1, 2, 0}};
         for (int[] s : strips) {
             SnapStacks x = new SnapStacks();
+            x.metal(1, 1);
             x.part(0, s[0], s[1], s[2]);
             int rate = x.stripOf(0, 2);
+            int[] ats = {-90000, -33750, -3500, -701, -1, 0, 1, 99, 1000, 6500, 58500, 89999,
+                rate * 1300 - 1, rate * 1300, rate * 1300 + 1, rate * -700 - 2, rate * -700 - 1, rate * -700};
             for (int at : ats) {
-                x.bounds(0, at, at + 1, 0);
-                int up = Due.NONE;
-                int back = Due.NONE;
-                for (int t = -500; t <= 1500; t++) {
-                    up = up == Due.NONE && rate * (t - 200) >= at + 1 ? t : up;
-                    back = rate * (t - 200) <= at ? t : back;
+                if (at >= -90000 && at <= 89999) {
+                    tripsAtAgainstAllWarmths(x, rate, at);
                 }
-                Due.is("rate " + rate + ", high " + (at + 1), x.tripsAt(0, 0), up);
-                Due.is("rate " + rate + ", low " + at, x.tripsAt(0, 1), back);
             }
         }
+    }
+
+    private static void tripsAtAgainstAllWarmths(SnapStacks x, int rate, int at) {
+        x.bounds(0, at, at + 1, 0);
+        int up = Due.NONE;
+        int back = Due.NONE;
+        for (int t = -500; t <= 1500; t++) {
+            up = up == Due.NONE && rate * (t - 200) >= at + 1 ? t : up;
+            back = rate * (t - 200) <= at ? t : back;
+        }
+        Due.is("rate " + rate + ", high " + (at + 1), x.tripsAt(0, 0), up);
+        Due.is("rate " + rate + ", low " + at, x.tripsAt(0, 1), back);
     }
 
     private static void loopsByHand() {
@@ -110,10 +118,9 @@ public final class WhatWouldBeTest {
         Due.is("late: lead", y.loop(0), 0);
         Due.is("late: period", y.loop(1), 4);
         Due.is("late: snaps", y.loop(2), 1);
-        y.set(0, 1);
-        y.set(1, 49);
-        Due.is("as if none got tired", y.loop(1), 4);
-        Due.is("as if none got tired, in the strip too", y.stripOf(0, 5), 50);
+        y.bounds(0, 0, 50, 2);
+        Due.is("later: period", y.loop(1), 6);
+        Due.is("later: snaps", y.loop(2), 1);
         y.warm(2, 223);
         Due.is("another room leads", y.loop(0), 4);
         String before = Due.stateOf(y);
@@ -121,6 +128,24 @@ public final class WhatWouldBeTest {
             Due.error(y, "loop(" + w + ")", y.loop(w), Due.INVALID, before, 4);
         }
         Due.error(y, "loop(0)", y.loop(0), 4, before, 4);
+        loopOfTiringStrip();
+    }
+
+    private static void loopOfTiringStrip() {
+        SnapStacks x = new SnapStacks();
+        x.part(0, 4, 5, 0);
+        x.part(0, 2, 3, 1);
+        x.bounds(0, 1500, 3600, 1);
+        x.heat(0, 30, 20);
+        int[] due = {41, 10, 1};
+        for (int what = 0; what < 3; what++) {
+            Due.is("never tired: loop(" + what + ")", x.loop(what), due[what]);
+        }
+        x.set(0, 1);
+        for (int what = 0; what < 3; what++) {
+            Due.is("as if none got tired: loop(" + what + ")", x.loop(what), due[what]);
+        }
+        Due.is("the bound stays", x.stripOf(0, 5), 3600);
     }
 
     /** Rooms (power, divisor, low, high, late, open) whose loops come a little behind the limit. */
@@ -249,6 +274,11 @@ public final class WhatWouldBeTest {
         x.metal(0, 0);
         stackIs(x, 810, 9, 5, 0, 9, 5, 0, 9, 5, 0);
         Due.is("811", x.stack(811, -1, 0), Due.NONE);
+        for (int k = 0; k < 6; k++) {
+            x.metal(k, k + 1);
+        }
+        Due.is("behind a change of all metals", x.stack(11, -1, 0), 2);
+        stackIs(x, 45, 9, 5, 0);
     }
 
     private static void stackAgainstAllRows() {
