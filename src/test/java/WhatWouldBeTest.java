@@ -142,6 +142,7 @@ public final class WhatWouldBeTest {
             Due.is("never tired: loop(" + what + ")", x.loop(what), due[what]);
         }
         x.set(0, 1);
+        x.set(1, 999);
         for (int what = 0; what < 3; what++) {
             Due.is("as if none got tired: loop(" + what + ")", x.loop(what), due[what]);
         }
