@@ -136,8 +136,8 @@ public final class WhatWouldBeTest {
         x.part(0, 4, 5, 0);
         x.part(0, 2, 3, 1);
         x.bounds(0, 1500, 3600, 1);
-        x.heat(0, 30, 20);
-        int[] due = {41, 10, 1};
+        x.heat(0, 10, 20);
+        int[] due = {41, 49, 4};
         for (int what = 0; what < 3; what++) {
             Due.is("never tired: loop(" + what + ")", x.loop(what), due[what]);
         }
