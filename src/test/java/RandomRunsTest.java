@@ -3,20 +3,23 @@ import java.util.Random;
 /** Random runs of at most 512 calls, with arguments in and out of their ranges, against the slow model. */
 public final class RandomRunsTest {
     private static final int RUNS = 300;
-    private static final int CALLS = 512;
+    /** What a call of stripOf and roomOf for all that they tell takes. */
+    private static final int CALLS_OF_ALL = 57;
     private static final int[] ODD = {Integer.MIN_VALUE, Integer.MAX_VALUE, -1, -2, 1000000, -1000000};
 
     private static Random random;
     private static StringBuilder told;
+    private static int calls;
 
     public static void main(String[] args) {
         for (int run = 0; run < RUNS; run++) {
             random = new Random(run);
             told = new StringBuilder("new");
+            calls = 0;
             SnapStacks x = new SnapStacks();
             SlowModel m = new SlowModel();
             int style = run % 3;
-            for (int i = 0; i < CALLS; i++) {
+            while (calls < Due.MOST_CALLS) {
                 if (!callBoth(x, m, style)) {
                     System.out.println("run " + run + ": " + told);
                     Due.end();
@@ -38,6 +41,7 @@ public final class RandomRunsTest {
     }
 
     private static boolean same(String call, int got, int want) {
+        calls++;
         told.append(' ').append(call).append('=').append(got);
         Due.is(call, got, want);
         return got == want;
@@ -172,18 +176,20 @@ public final class RandomRunsTest {
                 return same("stack(" + b + "," + i + "," + what + ")", x.stack(b, i, what), m.stack(b, i, what));
             }
             case 38: return random.nextInt(3) != 0 || same("undo", x.undo(), m.undo());
-            default: {
-                boolean is = true;
-                for (int k = 0; k < 3 && is; k++) {
-                    for (int what = 0; what <= 11; what++) {
-                        is &= same("stripOf(" + k + "," + what + ")", x.stripOf(k, what), m.stripOf(k, what));
-                    }
-                    for (int what = 0; what <= 6; what++) {
-                        is &= same("roomOf(" + k + "," + what + ")", x.roomOf(k, what), m.roomOf(k, what));
-                    }
-                }
-                return is;
+            default: return calls + CALLS_OF_ALL > Due.MOST_CALLS || random.nextInt(2) == 0 || all(x, m);
+        }
+    }
+
+    private static boolean all(SnapStacks x, SlowModel m) {
+        boolean is = true;
+        for (int k = 0; k < 3; k++) {
+            for (int what = 0; what <= 11; what++) {
+                is &= same("stripOf(" + k + "," + what + ")", x.stripOf(k, what), m.stripOf(k, what));
+            }
+            for (int what = 0; what <= 6; what++) {
+                is &= same("roomOf(" + k + "," + what + ")", x.roomOf(k, what), m.roomOf(k, what));
             }
         }
+        return is;
     }
 }

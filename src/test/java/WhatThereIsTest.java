@@ -1,14 +1,14 @@
-/** Promises 13 to 16: stripOf, partOf, roomOf, count. */
+/** Promises 13 to 16: stripOf, partOf, roomOf, count. Ranges and refusals have tests of their own. */
 public final class WhatThereIsTest {
-    private static final int LEAST = Integer.MIN_VALUE;
-    private static final int MOST = Integer.MAX_VALUE;
-
     public static void main(String[] args) {
         stripOf();
         partOf();
         roomOf();
+        roomsExtremesAtTheirEnds();
         extremesComeBack();
+        closedWhateverThePower();
         count();
+        countsAtTheirEnds();
         Due.end();
     }
 
@@ -30,10 +30,10 @@ public final class WhatThereIsTest {
         for (int what = 0; what < snapped.length; what++) {
             Due.is("snapped: stripOf(1, " + what + ")", x.stripOf(1, what), snapped[what]);
         }
-        String before = Due.stateOf(x);
-        int[][] wrong = {{-1, 0}, {3, 0}, {0, -1}, {0, 12}, {LEAST, 0}, {MOST, 12}, {0, LEAST}, {0, MOST}};
-        for (int[] w : wrong) {
-            Due.error(x, "stripOf(" + w[0] + ", " + w[1] + ")", x.stripOf(w[0], w[1]), Due.INVALID, before, 4);
+        int[] others = {0, 0, 0, 0, 1000, 3000, 0, 0, 0, 0, 0, 1};
+        for (int what = 0; what < others.length; what++) {
+            Due.is("stripOf(0, " + what + ")", x.stripOf(0, what), others[what]);
+            Due.is("stripOf(2, " + what + ")", x.stripOf(2, what), others[what]);
         }
     }
 
@@ -47,18 +47,8 @@ public final class WhatThereIsTest {
                 Due.is("partOf(2, " + index + ", " + what + ")", x.partOf(2, index, what), due[index][what]);
             }
         }
-        String before = Due.stateOf(x);
-        int[][] none = {{2, 2, 0}, {2, 7, 3}, {2, 8, 0}, {2, MOST, 0}, {0, 0, 0}};
-        for (int[] w : none) {
-            Due.error(x, "partOf(" + w[0] + ", " + w[1] + ", " + w[2] + ")",
-                    x.partOf(w[0], w[1], w[2]), Due.NONE, before, 2);
-        }
-        int[][] wrong = {{-1, 0, 0}, {3, 0, 0}, {2, -1, 0}, {2, LEAST, 0}, {2, 0, -1}, {2, 0, 4}, {2, 5, 4},
-            {0, 0, MOST}};
-        for (int[] w : wrong) {
-            Due.error(x, "partOf(" + w[0] + ", " + w[1] + ", " + w[2] + ")",
-                    x.partOf(w[0], w[1], w[2]), Due.INVALID, before, 2);
-        }
+        Due.is("behind the last part", x.partOf(2, 2, 0), Due.NONE);
+        Due.is("another strip's first part", x.partOf(0, 0, 0), Due.NONE);
     }
 
     private static void roomOf() {
@@ -85,11 +75,29 @@ public final class WhatThereIsTest {
         Due.is("no tick any more: greatest", x.roomOf(2, 5), Due.NONE);
         Due.is("no tick any more: least", x.roomOf(2, 6), Due.NONE);
         Due.is("no tick any more: closed", x.roomOf(2, 4), 0);
-        String before = Due.stateOf(x);
-        int[][] wrong = {{-1, 0}, {3, 0}, {0, -1}, {0, 7}, {3, 5}, {LEAST, 0}, {0, MOST}};
-        for (int[] w : wrong) {
-            Due.error(x, "roomOf(" + w[0] + ", " + w[1] + ")", x.roomOf(w[0], w[1]), Due.INVALID, before, 2);
-        }
+    }
+
+    /** "Its greatest warmth behind a tick so far", at both ends of warmth from the first tick on. */
+    private static void roomsExtremesAtTheirEnds() {
+        SnapStacks x = new SnapStacks();
+        x.outside(-500);
+        x.warm(0, -500);
+        x.tick(1);
+        Due.is("the greatest is the least there is", x.roomOf(0, 5), -500);
+        Due.is("the least is the least there is", x.roomOf(0, 6), -500);
+        x.outside(1500);
+        x.warm(0, 1500);
+        Due.is("not behind a tick", x.roomOf(0, 5), -500);
+        x.tick(1);
+        Due.is("the greatest", x.roomOf(0, 5), 1500);
+        Due.is("the least", x.roomOf(0, 6), -500);
+        SnapStacks y = new SnapStacks();
+        y.outside(1500);
+        y.warm(1, 1500);
+        y.tick(1);
+        Due.is("the greatest is the greatest there is", y.roomOf(1, 5), 1500);
+        Due.is("the least is the greatest there is", y.roomOf(1, 6), 1500);
+        Due.is("another room: from 200", y.roomOf(0, 6), 265);
     }
 
     private static void extremesComeBack() {
@@ -105,6 +113,23 @@ public final class WhatThereIsTest {
         Due.holds("least", x.roomOf(0, 6) < 0);
         x.undo();
         Due.is("least behind the undo", x.roomOf(0, 6), 195);
+    }
+
+    /** "Ticks so far at whose beginning its contact was closed (whatever the power)". */
+    private static void closedWhateverThePower() {
+        for (int power : new int[] {0, 99}) {
+            SnapStacks x = new SnapStacks();
+            x.heat(1, power, 99);
+            x.bounds(1, -2, -1, 0);
+            x.tick(1);
+            Due.is("closed at the beginning, open behind it", x.roomOf(1, 4), 1);
+            x.tick(5);
+            Due.is("open since", x.roomOf(1, 4), 1);
+            x.contact(1, 1);
+            x.tick(5);
+            Due.is("closed since", x.roomOf(1, 4), 6);
+            Due.is("another room", x.roomOf(0, 4), 11);
+        }
     }
 
     private static void count() {
@@ -124,9 +149,39 @@ public final class WhatThereIsTest {
             x.metal(k, 20 + k);
             Due.is("count(1" + k + ")", x.count(10 + k), 20 + k);
         }
-        String before = Due.stateOf(x);
-        for (int w : new int[] {-1, 7, 8, 9, 16, LEAST, LEAST + 9, MOST}) {
-            Due.error(x, "count(" + w + ")", x.count(w), Due.INVALID, before, 4);
+    }
+
+    /** Each count where there is nothing, and where there is no place for more. */
+    private static void countsAtTheirEnds() {
+        SnapStacks x = Scenes.full();
+        Due.is("a full history", x.count(3), 4);
+        Due.is("a full text", x.count(4), 60);
+        x.part(0, 1, 1, 0);
+        x.type('1');
+        Due.is("still a full history", x.count(3), 4);
+        Due.is("still a full text", x.count(4), 60);
+        for (int i = 3; i >= 0; i--) {
+            x.undo();
+            Due.is("one state less", x.count(3), i);
+        }
+        x.undo();
+        Due.is("an empty history", x.count(3), 0);
+        x.clearText();
+        Due.is("an empty text", x.count(4), 0);
+        x.outside(-500);
+        Due.is("the least outside", x.count(2), -500);
+        x.outside(1500);
+        Due.is("the greatest outside", x.count(2), 1500);
+        int[][] settings = {{0, 0}, {0, 99}, {1, 1}, {1, 999}};
+        for (int[] s : settings) {
+            x.set(s[0], s[1]);
+            Due.is("setting " + s[0], x.count(5 + s[0]), s[1]);
+        }
+        for (int k = 0; k < 6; k++) {
+            x.metal(k, 0);
+            Due.is("the least number", x.count(10 + k), 0);
+            x.metal(k, 30);
+            Due.is("the greatest number", x.count(10 + k), 30);
         }
     }
 }
