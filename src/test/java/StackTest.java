@@ -1,6 +1,7 @@
 import java.util.Arrays;
 import java.util.List;
 import java.util.Map;
+import java.util.Random;
 
 /** Promise 20: stack. Ranges and refusals have tests of their own. */
 public final class StackTest {
@@ -17,6 +18,7 @@ public final class StackTest {
         equalMetals();
         greatestBends();
         metalsThatChange();
+        manyMetals();
         againstAllRows();
         Due.end();
     }
@@ -120,6 +122,40 @@ public final class StackTest {
         Due.is("behind a change of all metals", x.stack(11, -1, 0), 2);
         stackIs(x, 45, 9, 5, 0);
         stackIs(x, 1, 1, 1, 0);
+    }
+
+    /** Metals that change over and over, some of them alike, against the slow model. */
+    private static void manyMetals() {
+        Random random = new Random(19);
+        for (int object = 0; object < 60; object++) {
+            SnapStacks x = new SnapStacks();
+            for (int change = 0; change < 9; change++) {
+                int kinds = 2 + random.nextInt(5);
+                int[] numbers = new int[6];
+                for (int k = 0; k < 6; k++) {
+                    numbers[k] = k < kinds ? random.nextInt(31) : numbers[random.nextInt(kinds)];
+                }
+                setMetals(x, numbers);
+                List<Map<Integer, int[]>> slow = SlowModel.bestStacks(numbers);
+                for (int i = 0; i < 50; i++) {
+                    int bend = i < 30 ? random.nextInt(121) - 60 : random.nextInt(2 * MOST_BEND + 1) - MOST_BEND;
+                    int index = random.nextInt(4) - 1;
+                    int what = index < 0 ? 0 : random.nextInt(3);
+                    Due.is(Arrays.toString(numbers) + " stack(" + bend + ", " + index + ", " + what + ")",
+                            x.stack(bend, index, what), told(slow, bend, index, what));
+                }
+            }
+        }
+    }
+
+    private static int told(List<Map<Integer, int[]>> slow, int bend, int index, int what) {
+        for (int parts = 0; parts <= 3; parts++) {
+            int[] row = slow.get(parts).get(bend);
+            if (row != null) {
+                return index < 0 ? parts : index < parts ? row[3 * index + what] : Due.NONE;
+            }
+        }
+        return Due.NONE;
     }
 
     /** All bends with several sets of metals; each object answers for another set first. */
